@@ -108,6 +108,8 @@ public final class PromisesTest {
         s.tellFault("ask b b mouth at 1;", 6);
         s.tellFault("offer d b mouth at 1;", 6);
         s.tellFault("offer ab mouth at 1;", 6);
+        s.tellFault("offer a bz mouth at 1;", 8);
+        s.tellFault("offer a b{mouth at 1;", 9);
         s.tellFault("offer a b hold 2000 mouth at 1;", 15);
         s.tellFault("offer a b hold 5 price 1 mouth at 1;", 17);
         s.tellFault("offer a b given 0 hold 5 mouth at 1;", 16);
@@ -494,19 +496,22 @@ public final class PromisesTest {
         checkOpen(s, 4, 1, 0, new int[] {10, 51, 3});
         s.tell("offer a b hold 50 post at 10 after 2;back a 0 mouth at 51;");
         checkOpen(s, 5, 1, 0, new int[] {10, 51, 1});
+        s.tell("offer a b hold 0 mouth at 0;back a 0 mouth at 0;");
+        checkOpen(s, 6, 0, 0, new int[] {0, 0, 1});
+        checkOpen(s, 6, 1, 0, new int[] {0, 1, 3});
         // A "yes" with "but" ends what it answers and is open itself, unless it's SMALL.
         s.tell("offer a b mouth at 10;yes b 0 but port 1 wire at 12 after 1;");
-        checkOpen(s, 6, 0, 0, new int[] {10, 13, 2});
-        checkOpen(s, 6, 0, 1, new int[] {13, 9999, 0});
-        checkOpen(s, 6, 1, 0, new int[] {10, 19, 4});
-        s.due("SMALL", s.x.open(6, 1, 0, 1, 0), -2);
+        checkOpen(s, 7, 0, 0, new int[] {10, 13, 2});
+        checkOpen(s, 7, 0, 1, new int[] {13, 9999, 0});
+        checkOpen(s, 7, 1, 0, new int[] {10, 19, 4});
+        s.due("SMALL", s.x.open(7, 1, 0, 1, 0), -2);
         s.tell("offer a b post at 10 after 2 lost;");
-        checkOpen(s, 7, 0, 0, new int[] {12, 9999, 0});
-        s.due("lost, never", s.x.open(7, 0, 1, 0, 0), -1);
-        s.due("lost, but sent", s.x.open(7, 1, 1, 0, 0), 10);
-        s.due("lost, no lapse", s.x.open(7, 1, 1, 0, 1), 9999);
-        s.tell("offer a b given 7 mouth at 1;");
-        s.due("given in vain", s.x.open(8, 0, 0, 0, 0), -1);
+        checkOpen(s, 8, 0, 0, new int[] {12, 9999, 0});
+        s.due("lost, never", s.x.open(8, 0, 1, 0, 0), -1);
+        s.due("lost, but sent", s.x.open(8, 1, 1, 0, 0), 10);
+        s.due("lost, no lapse", s.x.open(8, 1, 1, 0, 1), 9999);
+        s.tell("offer a b given 8 mouth at 1;");
+        s.due("given in vain", s.x.open(9, 0, 0, 0, 0), -1);
         s.due("no OFFER", s.x.open(0, 0, 0, 1, 0), -2);
         s.due("no such SAYING", s.x.open(0, 0, 0, 3, 0), -2);
         s.due("no such SAYING", s.x.open(0, 0, 0, -1, 0), -2);
@@ -514,7 +519,7 @@ public final class PromisesTest {
         s.due("what", s.x.open(0, 0, 0, 0, -1), -2);
         s.due("no such COMBO", s.x.open(0, 0, 1, 0, 0), -2);
         s.due("no such LAW", s.x.open(0, 2, 0, 0, 0), -2);
-        s.due("no such CASE", s.x.open(9, 0, 0, 0, 0), -2);
+        s.due("no such CASE", s.x.open(10, 0, 0, 0, 0), -2);
     }
 
     private static void checkOpen(Script s, int number, int law, int k, int[] due) {
@@ -655,6 +660,10 @@ public final class PromisesTest {
         s.due("one and none", s.x.apart(1, 0, 2, 0), 1);
         s.tell("offer a b port 1 mouth at 10;yes b 0 but port 1 mouth at 11;");
         s.due("like WORDS", s.x.apart(2, 2, 3, 0), 0);
+        for (int w = 0; w < 5; w++) {
+            String word = new String[] {"price", "much", "day", "port", "court"}[w];
+            checkOffersApart(word);
+        }
         s.due("what", s.x.apart(0, 0, 1, 2), -2);
         s.due("what", s.x.apart(0, 0, 1, -1), -2);
         s.due("no such LAW", s.x.apart(0, 0, 4, 0), -2);
@@ -662,6 +671,21 @@ public final class PromisesTest {
         s.due("no such CASE", s.x.apart(3, 0, 1, 0), -2);
         s.tell("ask a b post at 0 to 15 after 0 to 15 read 0 to 15;");
         s.due("not LOOKED at", s.x.apart(3, 0, 1, 0), -2);
+    }
+
+    /** Two LAWS with bargains at one hour on OFFERS that tell a WORD unlike. */
+    private static void checkOffersApart(String word) {
+        Script s = new Script("promise 19, " + word);
+        s.law("deed yes;");
+        s.law("");
+        s.tell("offer a b " + word + " 1 mouth at 1;offer a b " + word + " 2 mouth at 1;deed b 0 mouth at 5;"
+                + "yes b 1 mouth at 5;");
+        s.due("the one", s.x.run(0, 0, 0, 1), 0);
+        s.due("the other", s.x.run(0, 1, 0, 1), 1);
+        s.due("unlike", s.x.apart(0, 0, 1, 0), 1);
+        s.tell("offer a b " + word + " 1 mouth at 1;offer a b " + word + " 1 mouth at 1;deed b 0 mouth at 5;"
+                + "yes b 1 mouth at 5;");
+        s.due("like", s.x.apart(1, 0, 1, 0), 0);
     }
 
     private static void promise20Part() {
@@ -878,6 +902,38 @@ public final class PromisesTest {
         s.due("none such", s.x.back(-1) ? 1 : 0, 0);
         s.due("again", s.x.back(1) ? 1 : 0, 1);
         s.due("one CASE", s.x.count(0), 1);
+        imagesKeepLaws();
+    }
+
+    private static void imagesKeepLaws() {
+        Script s = new Script("promises 27, 28, LAWS");
+        s.x.image();
+        for (int i = 0; i < 8; i++) {
+            s.law("lapse " + i + ";");
+        }
+        for (int i = 0; i < 6; i++) {
+            s.clause(i == 0 || i == 5 ? "yes all sent;" : "risk come;");
+        }
+        s.tell("offer a b mouth at 1;yes b 0 post at 1 after 50;");
+        s.x.image();
+        s.x.back(0);
+        for (int i = 0; i < 8; i++) {
+            s.law("lapse 9;");
+        }
+        for (int i = 0; i < 6; i++) {
+            s.clause("risk sent;");
+        }
+        s.tell("offer a b mouth at 1;yes b 0 post at 1 after 50;");
+        s.due("no CLAUSE helps", s.x.write(0), -1);
+        s.x.image();
+        s.x.back(1);
+        for (int i = 0; i < 8; i++) {
+            s.due("lapse " + i, s.x.rule(i, 7), i);
+        }
+        s.due("the first CLAUSE", s.x.write(0), 1);
+        s.x.back(2);
+        s.due("lapse", s.x.rule(0, 7), 9);
+        s.due("no CLAUSE helps", s.x.write(0), -1);
     }
 
     private static void promise29Count() {
