@@ -694,9 +694,10 @@ public final class CrossingWords {
         /** The CASE with what the text tells behind; null: there was a FAULT. */
         Case readBehind(Case old, int ahead) {
             casesAhead = ahead;
-            int size = Math.min(old.size, MOST_SAYINGS);
-            System.arraycopy(old.cells, 0, cells, 0, size * WIDTH);
-            for (int turn = size; turn <= MOST_SAYINGS && tape.goesOn(); turn++) {
+            int had = Math.min(old.size, MOST_SAYINGS);
+            int size = had;
+            System.arraycopy(old.cells, 0, cells, 0, had * WIDTH);
+            for (int turn = had; turn <= MOST_SAYINGS && tape.goesOn(); turn++) {
                 if (turn == MOST_SAYINGS) {
                     tape.fail();
                 } else {
@@ -704,7 +705,7 @@ public final class CrossingWords {
                     size = turn + 1;
                 }
             }
-            if (size == 0) {
+            if (size == had) {
                 tape.fail();
             }
             return tape.failedAt == NONE ? new Case(cells, size) : null;

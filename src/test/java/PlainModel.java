@@ -151,7 +151,7 @@ final class PlainModel {
             all.add(saying(all, ahead));
             need(";");
         }
-        if (all.isEmpty()) {
+        if (all.size() == old.size()) {
             throw here();
         }
         return all;

@@ -178,8 +178,15 @@ public final class PromisesTest {
         s.due("the 13th", s.more(1, times(ASK, 10)), -1);
         s.due("place of the 13th", s.x.fault(), 171);
         s.due("as it was", s.x.asked(1, 0), 3);
+        s.due("no SAYING found", s.x.more(1, 0), -1);
+        s.due("more must come", s.x.fault(), 0);
+        s.due("as it was", s.x.asked(1, 0), 3);
+        s.due("blanks alone", s.more(1, " \n "), -1);
+        s.due("more must come behind them", s.x.fault(), 3);
+        s.due("the tape is empty", s.x.count(3), 0);
         s.due("12 in all", s.more(1, times(ASK, 9)), 12);
-        s.due("no SAYING found", s.x.more(1, 0), 12);
+        s.due("no SAYING found behind 12", s.x.more(1, 0), -1);
+        s.due("its place", s.x.fault(), 0);
         s.due("the 13th", s.more(1, " " + ASK), -1);
         s.due("place of the 13th", s.x.fault(), 1);
     }
