@@ -36,10 +36,7 @@ public final class PromisesTest {
         promise27And28Images();
         promise29Count();
         noCallThrows();
-        System.out.println(Script.wrongOnes() == 0 ? "all promises hold" : Script.wrongOnes() + " answers are wrong");
-        if (Script.wrongOnes() != 0) {
-            System.exit(1);
-        }
+        Script.end("all promises hold");
     }
 
     private static void promise1NewObject() {
@@ -83,7 +80,7 @@ public final class PromisesTest {
         s.due("tokens without blanks", s.tell("offer a b price1much2mouth at3;"), 1);
         s.due("blanks around", s.tell(" \n ask\na\nb  mouth at 1 ; \n"), 2);
         s.due("0001", s.tell("ask a b mouth at 0001;"), 3);
-        s.due("12 SAYINGS", s.tell(times(ASK, 12)), 4);
+        s.due("12 SAYINGS", s.tell(Script.times(ASK, 12)), 4);
         for (int i = 5; i < 16; i++) {
             s.due("tell " + i, s.tell(ASK), i);
         }
@@ -142,8 +139,8 @@ public final class PromisesTest {
         s.tellFault("ask a b mouth at 1;yes b 0 mouth at 2;", 25);
         s.tellFault(ASK + "~", 19);
         s.tellFault("ask a b mouth at 1\t;", 18);
-        s.tellFault(times(ASK, 13), 228);
-        s.tellFault(times(ASK, 12) + "9", 228);
+        s.tellFault(Script.times(ASK, 13), 228);
+        s.tellFault(Script.times(ASK, 12) + "9", 228);
         s.due("no CASE", s.x.count(0), 0);
         s.due("all edges hold", s.tell("offer a b price 999 court 0 hold 1999 post at 1984 to 1999 after 984 to 999 "
                 + "read 999 lost;"), 0);
@@ -175,7 +172,7 @@ public final class PromisesTest {
         s.due("place", s.x.fault(), 16);
         s.due("given one ahead", s.more(1, "offer a b given 0 mouth at 1;"), 3);
         s.due("given none ahead", s.more(0, "offer a b given 0 mouth at 1;"), -1);
-        s.due("the 13th", s.more(1, times(ASK, 10)), -1);
+        s.due("the 13th", s.more(1, Script.times(ASK, 10)), -1);
         s.due("place of the 13th", s.x.fault(), 171);
         s.due("as it was", s.x.asked(1, 0), 3);
         s.due("no SAYING found", s.x.more(1, 0), -1);
@@ -184,7 +181,7 @@ public final class PromisesTest {
         s.due("blanks alone", s.more(1, " \n "), -1);
         s.due("more must come behind them", s.x.fault(), 3);
         s.due("the tape is empty", s.x.count(3), 0);
-        s.due("12 in all", s.more(1, times(ASK, 9)), 12);
+        s.due("12 in all", s.more(1, Script.times(ASK, 9)), 12);
         s.due("no SAYING found behind 12", s.x.more(1, 0), -1);
         s.due("its place", s.x.fault(), 0);
         s.due("the 13th", s.more(1, " " + ASK), -1);
@@ -208,14 +205,14 @@ public final class PromisesTest {
         s.lawFault("risk read;", 5);
         s.lawFault("no sent", 7);
         s.lawFault("no sent;no", 10);
-        s.lawFault(times("no sent;", 21), 160);
+        s.lawFault(Script.times("no sent;", 21), 160);
         s.due("no LAW", s.x.count(1), 0);
         s.put("no sent;");
         s.due("n below 0", s.x.law(-1), -2);
         s.due("n too great", s.x.law(21), -2);
         s.due("nothing done", s.x.count(3), 20);
         s.due("first", s.x.law(0), 0);
-        s.due("20 RULES", s.law(times("no sent;", 20)), 1);
+        s.due("20 RULES", s.law(Script.times("no sent;", 20)), 1);
         for (int i = 2; i < 8; i++) {
             s.due("law " + i, s.law("lapse 999;silence 0;"), i);
         }
@@ -231,12 +228,12 @@ public final class PromisesTest {
         s.due("place", s.x.fault(), 2);
         s.due("no RULE", s.x.clause(0), -1);
         s.due("place", s.x.fault(), 0);
-        s.due("21 RULES", s.clause(times("no sent;", 21)), -1);
+        s.due("21 RULES", s.clause(Script.times("no sent;", 21)), -1);
         s.due("place", s.x.fault(), 160);
         s.due("n below 0", s.x.clause(-1), -2);
         s.due("n too great", s.x.clause(1), -2);
         for (int i = 0; i < 6; i++) {
-            s.due("clause " + i, s.clause(times("no sent;", 20)), i);
+            s.due("clause " + i, s.clause(Script.times("no sent;", 20)), i);
         }
         s.due("-2 ahead of -3", s.x.clause(1), -2);
         s.due("the seventh", s.x.clause(0), -3);
@@ -303,7 +300,7 @@ public final class PromisesTest {
         s.due("more COMBOS", s.x.asked(1, 2), -1);
         s.tell("offer a b post at 0 to 15 after 0 to 4 read 0 to 12;");
         s.due("1,040 COMBOS", s.x.asked(2, 2), -1);
-        s.tell(times("ask a b post at 0 to 15 after 0 to 15 read 0 to 15 lost;", 12));
+        s.tell(Script.times("ask a b post at 0 to 15 after 0 to 15 read 0 to 15 lost;", 12));
         s.due("ASKED", s.x.asked(3, 1), 48);
         s.due("COMBOS beyond all numbers", s.x.asked(3, 2), -1);
         s.tell("ask a b mouth at 5 to 5;");
@@ -585,7 +582,7 @@ public final class PromisesTest {
         s.due("on the OFFER's at and lost", s.x.hang(0, 0), 2 | 8);
         s.tell(ASK);
         s.due("on nothing", s.x.hang(1, 0), 0);
-        s.tell(times("ask a b post at 1 to 1 after 1 to 1 read 1 to 1;", 4));
+        s.tell(Script.times("ask a b post at 1 to 1 after 1 to 1 read 1 to 1;", 4));
         s.due("12 ASKED ones", s.x.hang(2, 0), 0);
         s.more(2, "ask a b mouth at 1 to 1;");
         s.due("LOOKED at", s.x.asked(2, 2), 1);
@@ -1011,13 +1008,5 @@ public final class PromisesTest {
         x.law(b);
         x.clause(a);
         x.back(a);
-    }
-
-    private static String times(String text, int many) {
-        StringBuilder all = new StringBuilder();
-        for (int i = 0; i < many; i++) {
-            all.append(text);
-        }
-        return all.toString();
     }
 }

@@ -9,10 +9,6 @@ final class Script {
         this.name = name;
     }
 
-    static int wrongOnes() {
-        return wrong;
-    }
-
     void due(String what, long got, long want) {
         if (got != want) {
             wrong++;
@@ -62,5 +58,108 @@ final class Script {
     void lawFault(String text, int place) {
         due("law '" + text + "'", law(text), -1);
         due("fault of '" + text + "'", x.fault(), place);
+    }
+
+    // The texts of the next four bear the sign ^ ahead of the byte at whose place the FAULT is due.
+
+    void badCase(String marked) {
+        String text = marked.replace("^", "");
+        tellFault(text, marked.indexOf('^'));
+    }
+
+    void badMore(int number, String marked) {
+        String text = marked.replace("^", "");
+        due("more '" + text + "'", more(number, text), -1);
+        due("fault of '" + text + "'", x.fault(), marked.indexOf('^'));
+    }
+
+    void badLaw(String marked) {
+        String text = marked.replace("^", "");
+        lawFault(text, marked.indexOf('^'));
+    }
+
+    void badClause(String marked) {
+        String text = marked.replace("^", "");
+        due("clause '" + text + "'", clause(text), -1);
+        due("fault of '" + text + "'", x.fault(), marked.indexOf('^'));
+    }
+
+    /** A CASE that is told without a FAULT, by an object of its own so that it's the first one. */
+    static Script ofCase(String name, String text) {
+        Script s = new Script(name);
+        s.due("tell '" + text + "'", s.tell(text), 0);
+        s.due("fault of '" + text + "'", s.x.fault(), -1);
+        return s;
+    }
+
+    /** A CASE by a LAW, both the first ones of an object of their own. */
+    static Script of(String name, String law, String text) {
+        Script s = ofCase(name, text);
+        s.due("law '" + law + "'", s.law(law), 0);
+        return s;
+    }
+
+    /** How many there are of all things, to see that a refused call does nothing; few calls, as an object has but 512. */
+    String state() {
+        StringBuilder all = new StringBuilder("counts");
+        for (int what = 0; what <= 5; what++) {
+            all.append(' ').append(x.count(what));
+        }
+        all.append(", fault ").append(x.fault());
+        for (int number = 0; number < x.count(0); number++) {
+            all.append(", asked ").append(x.asked(number, 1)).append(' ').append(x.asked(number, 2));
+        }
+        for (int law = 0; law < x.count(1); law++) {
+            all.append(", rules ").append(x.rule(law, 13));
+        }
+        return all.toString();
+    }
+
+    void sameState(String what, String want) {
+        same(what, state(), want);
+    }
+
+    /** All that calls show of the CASES and LAWS. */
+    String whole() {
+        StringBuilder all = new StringBuilder(state());
+        for (int number = 0; number < x.count(0); number++) {
+            for (int k = 0; k < x.asked(number, 0); k++) {
+                for (int what = 0; what < 15; what++) {
+                    all.append(' ').append(x.saying(number, k, what));
+                }
+            }
+        }
+        for (int law = 0; law < x.count(1); law++) {
+            for (int what = 0; what < 13; what++) {
+                all.append(' ').append(x.rule(law, what));
+            }
+        }
+        return all.toString();
+    }
+
+    void sameWhole(String what, String want) {
+        same(what, whole(), want);
+    }
+
+    private void same(String what, String got, String want) {
+        if (!got.equals(want)) {
+            wrong++;
+            System.out.println(name + ": " + what + ": it is '" + got + "', due is '" + want + "'");
+        }
+    }
+
+    static String times(String text, int many) {
+        StringBuilder all = new StringBuilder();
+        for (int i = 0; i < many; i++) {
+            all.append(text);
+        }
+        return all.toString();
+    }
+
+    static void end(String good) {
+        System.out.println(wrong == 0 ? good : wrong + " answers are wrong");
+        if (wrong != 0) {
+            System.exit(1);
+        }
     }
 }
