@@ -1,4 +1,4 @@
-/** The document's DOES, CAN, UNTIL, LOST, WIRED, IMAGES and part 3: a test of its own for each boundary that they name. */
+/** The document's part 2 from DOES on, and its part 3: a test of its own for each sentence that names a boundary. */
 public final class AnswerEdgesTest {
     private static final String TOO_MANY_COMBOS = "ask a b post at 0 to 15 after 0 to 15 read 0 to 15;";
 
@@ -34,6 +34,8 @@ public final class AnswerEdgesTest {
         writtenTheLeastBits();
         writtenInTheirOrder();
         writtenInEachComboByEachLaw();
+        writtenFromTheFirstOn();
+        writtenChangesNothing();
         writtenWithAllSix();
         Script.end("the edges of answers hold");
     }
@@ -93,7 +95,8 @@ public final class AnswerEdgesTest {
         does(name, "", "offer a b hold 18 mouth at 1;back a 0 mouth at 20;no b 0 mouth at 20;", 1, 0, 0);
         does(name, "lapse 17;", "offer a b mouth at 1;back a 0 mouth at 20;no b 0 mouth at 20;", 1, 0, 0);
         does("what does nothing", "hold binds;", "offer a b hold 20 mouth at 1;back a 0 mouth at 20;", 1, 0);
-        Script s = Script.of("a lost one", "", "offer a b mouth at 1;back a 0 post at 5 after 1 lost;no b 0 post at 9 after 1 lost;");
+        Script s = Script.of("a lost one", "",
+                "offer a b mouth at 1;back a 0 post at 5 after 1 lost;no b 0 post at 9 after 1 lost;");
         int[][] due = {{2, 0}, {0, 2}, {2, 0}, {0, 0}};
         for (int combo = 0; combo < 4; combo++) {
             s.due("back in COMBO " + combo, s.x.does(0, 0, combo, 1), due[combo][0]);
@@ -125,7 +128,8 @@ public final class AnswerEdgesTest {
         String small = "offer a b mouth at 1;yes b 0 but port 1 post at 5 after 5;back b 1 mouth at 9;";
         does("of a SMALL one", "but small;", small, 1, 0, 8);
         does("of an OFFER", "", small, 1, 3, 2);
-        Script s = Script.of(name, "", "offer a b mouth at 1;yes b 0 post at 5 after 5 lost;back b 1 post at 5 after 1 lost;");
+        Script s = Script.of(name, "",
+                "offer a b mouth at 1;yes b 0 post at 5 after 5 lost;back b 1 post at 5 after 1 lost;");
         int[] due = {8, 0, 0, 0};
         for (int combo = 0; combo < 4; combo++) {
             s.due("lost, COMBO " + combo, s.x.does(0, 0, combo, 2), due[combo]);
@@ -161,7 +165,8 @@ public final class AnswerEdgesTest {
         canFromTo(name, "offer sent;", tale, 0, 1, 10, 20);
         canFromTo(name, "offer come;", tale, 0, 1, 15, 20);
         canFromTo(name, "offer read;", tale, 0, 1, 18, 20);
-        canFromTo("of a yes with but", "", "offer a b hold 0 mouth at 1;yes b 0 but port 1 mouth at 9;no a 1 mouth at 20;", 1, 1, 9, 20);
+        canFromTo("of a yes with but", "",
+                "offer a b hold 0 mouth at 1;yes b 0 but port 1 mouth at 9;no a 1 mouth at 20;", 1, 1, 9, 20);
         Script s = Script.of("not the other's, nor a third's", "", "offer a b mouth at 10;");
         s.due("b", s.x.can(0, 0, 0, 1, 10), 2);
         s.due("c", s.x.can(0, 0, 0, 2, 10), 0);
@@ -190,8 +195,10 @@ public final class AnswerEdgesTest {
         canFromTo(name, "offer sent;", tale, 1, 2, 15, 20);
         canFromTo(name, "offer come;", tale, 1, 2, 15, 20);
         canFromTo(name, "offer read;", tale, 1, 2, 18, 20);
-        canFromTo("ended ahead of its coming", "offer sent;", "offer a b post at 10 after 5;back a 0 mouth at 15;", 1, 2, 15, 15);
-        canFromTo("of a yes with but", "", "offer a b hold 0 mouth at 1;yes b 0 but port 1 mouth at 9;no a 1 mouth at 20;", 0, 2, 9, 20);
+        canFromTo("ended ahead of its coming", "offer sent;", "offer a b post at 10 after 5;back a 0 mouth at 15;", 1,
+                2, 15, 15);
+        canFromTo("of a yes with but", "",
+                "offer a b hold 0 mouth at 1;yes b 0 but port 1 mouth at 9;no a 1 mouth at 20;", 0, 2, 9, 20);
         Script s = Script.of("both", "", "offer a b mouth at 10;offer b a mouth at 12;");
         s.due("a at 11", s.x.can(0, 0, 0, 0, 11), 1);
         s.due("a at 12", s.x.can(0, 0, 0, 0, 12), 3);
@@ -222,16 +229,19 @@ public final class AnswerEdgesTest {
     }
 
     private static void untilTheLastHour() {
-        Script s = Script.of("UNTIL: the last hour at which they CAN so", "", "offer a b mouth at 10;back a 0 mouth at 20;"
+        Script s = Script.of("UNTIL: the last hour at which they CAN so", "",
+                "offer a b mouth at 10;back a 0 mouth at 20;"
                 + "offer a b mouth at 30;no b 2 mouth at 31;offer a b mouth at 1;no b 4 mouth at 2;");
         s.due("a", s.x.until(0, 0, 0, 0, 1), 30);
         s.due("b", s.x.until(0, 0, 0, 1, 2), 30);
         s.due("a has none to take", s.x.until(0, 0, 0, 0, 2), -1);
-        Script t = Script.of("only ahead of the bargain's", "", "offer a b mouth at 10;back a 0 mouth at 20;offer a b mouth at 22;"
+        Script t = Script.of("only ahead of the bargain's", "",
+                "offer a b mouth at 10;back a 0 mouth at 20;offer a b mouth at 22;"
                 + "yes b 2 mouth at 22;");
         t.due("a", t.x.until(0, 0, 0, 0, 1), 19);
         t.due("b", t.x.until(0, 0, 0, 1, 2), 19);
-        Script u = Script.of("what they CAN so", "hold binds;", "offer a b hold 40 mouth at 10;offer a b mouth at 5;no b 1 mouth at 9;");
+        Script u = Script.of("what they CAN so", "hold binds;",
+                "offer a b hold 40 mouth at 10;offer a b mouth at 5;no b 1 mouth at 9;");
         u.due("a", u.x.until(0, 0, 0, 0, 1), 8);
         u.due("b", u.x.until(0, 0, 0, 1, 2), 40);
     }
@@ -258,7 +268,8 @@ public final class AnswerEdgesTest {
 
     private static void lostForSure() {
         String name = "LOST: in how many COMBOS of the CASE with it lost for sure there is a bargain";
-        String tale = "offer a b post at 1 after 1;back a 0 post at 5 after 1;no b 0 wire at 6 after 1;yes b 0 post at 9 to 11 after 1;"
+        String tale = "offer a b post at 1 after 1;back a 0 post at 5 after 1;no b 0 wire at 6 after 1;"
+                + "yes b 0 post at 9 to 11 after 1;"
                 + "ask a b mouth at 1;ask a b deed at 1;";
         Script s = Script.of(name, "", tale);
         int[] due = {0, 0, 0, 0, -2, -2};
@@ -272,32 +283,38 @@ public final class AnswerEdgesTest {
         t.due("the back lost", t.x.lost(0, 0, 1), 3);
         t.due("the OFFER lost", t.x.lost(0, 0, 0), 0);
         t.due("the YES lost", t.x.lost(0, 0, 3), 0);
-        Script u = Script.of("its hours else as they are", "yes all sent;", "offer a b mouth at 10;yes b 0 post at 9 to 11 after 1 to 2;");
+        Script u = Script.of("its hours else as they are", "yes all sent;",
+                "offer a b mouth at 10;yes b 0 post at 9 to 11 after 1 to 2;");
         u.due("sent", u.x.lost(0, 0, 1), 4);
-        Script v = Script.of("a lost no was sent", "no sent;", "offer a b mouth at 1;no b 0 post at 5 after 1;yes b 0 mouth at 4 to 6;");
+        Script v = Script.of("a lost no was sent", "no sent;",
+                "offer a b mouth at 1;no b 0 post at 5 after 1;yes b 0 mouth at 4 to 6;");
         v.due("sent", v.x.lost(0, 0, 1), 1);
     }
 
     private static void lostIsNotAsked() {
-        Script s = Script.of("LOST: its \"lost\" isn't ASKED", "", "offer a b mouth at 1;back a 0 post at 5 after 1 lost;yes b 0 post at 9 after 1 lost;");
+        Script s = Script.of("LOST: its \"lost\" isn't ASKED", "",
+                "offer a b mouth at 1;back a 0 post at 5 after 1 lost;yes b 0 post at 9 after 1 lost;");
         s.due("as it is", s.x.sure(0, 0, 0), 1);
         s.due("the back lost", s.x.lost(0, 0, 1), 1);
         s.due("the YES lost", s.x.lost(0, 0, 2), 0);
-        Script t = Script.of("not LOOKED at then", "", "offer a b post at 0 to 15 after 0 to 15 read 0 to 3 lost;yes b 0 mouth at 50;"
+        Script t = Script.of("not LOOKED at then", "",
+                "offer a b post at 0 to 15 after 0 to 15 read 0 to 3 lost;yes b 0 mouth at 50;"
                 + "ask a b wire at 1 after 1;");
         t.due("2,048 COMBOS", t.x.asked(0, 2), -1);
         t.due("1,024 then", t.x.lost(0, 0, 0), 0);
         t.due("2,048 then", t.x.lost(0, 0, 2), -2);
         t.more(0, "ask a b post at 1 after 1 lost;");
         t.due("4,096 less one", t.x.lost(0, 0, 0), -2);
-        Script u = Script.of("1,024 with bargains", "", "offer a b mouth at 0 to 15;yes b 0 mouth at 15 to 30;ask a b post at 1 to 2 after 1 to 2 lost;");
+        Script u = Script.of("1,024 with bargains", "",
+                "offer a b mouth at 0 to 15;yes b 0 mouth at 15 to 30;ask a b post at 1 to 2 after 1 to 2 lost;");
         u.due("2,048 COMBOS", u.x.asked(0, 2), -1);
         u.due("1,024 then", u.x.lost(0, 0, 2), 1024);
     }
 
     private static void wiredComesAtOnce() {
         String name = "WIRED: of the CASE with it sent by wire, coming and read at once";
-        Script s = Script.of(name, "yes wire read;", "offer a b post at 1 after 1 to 3 read 5;back a 0 mouth at 8;yes b 0 post at 4 to 9 after 9 read 9;");
+        Script s = Script.of(name, "yes wire read;",
+                "offer a b post at 1 after 1 to 3 read 5;back a 0 mouth at 8;yes b 0 post at 4 to 9 after 9 read 9;");
         s.due("as it is", s.x.sure(0, 0, 0), 0);
         String state = s.whole();
         s.due("the YES", s.x.wired(0, 0, 2), 12);
@@ -311,17 +328,20 @@ public final class AnswerEdgesTest {
 
     private static void wiredIsNeverLost() {
         String name = "WIRED: never lost";
-        Script s = Script.of(name, "", "offer a b mouth at 1;yes b 0 post at 4 after 1 lost;ask a b wire at 1 after 1 lost;");
+        Script s = Script.of(name, "",
+                "offer a b mouth at 1;yes b 0 post at 4 after 1 lost;ask a b wire at 1 after 1 lost;");
         s.due("COMBOS with a bargain", s.x.sure(0, 0, 0), 2);
         s.due("the YES", s.x.wired(0, 0, 1), 2);
         s.due("the ask", s.x.wired(0, 0, 2), 1);
         s.due("the OFFER", s.x.wired(0, 0, 0), 2);
-        Script t = Script.of("not LOOKED at then", "", "offer a b mouth at 10;yes b 0 post at 11 to 26 after 0 to 15 read 0 to 15 lost;"
+        Script t = Script.of("not LOOKED at then", "",
+                "offer a b mouth at 10;yes b 0 post at 11 to 26 after 0 to 15 read 0 to 15 lost;"
                 + "ask a b mouth at 0 to 15;ask a b post at 0 to 3 after 0 to 1;");
         t.due("not LOOKED at", t.x.asked(0, 2), -1);
         t.due("2,048 then", t.x.wired(0, 0, 1), -2);
         t.due("far more then", t.x.wired(0, 0, 3), -2);
-        Script u = Script.of("LOOKED at then", "", "offer a b mouth at 10;yes b 0 post at 11 to 26 after 0 to 15 read 0 to 15 lost;"
+        Script u = Script.of("LOOKED at then", "",
+                "offer a b mouth at 10;yes b 0 post at 11 to 26 after 0 to 15 read 0 to 15 lost;"
                 + "ask a b mouth at 0 to 15;ask a b mouth at 0 to 3;");
         u.due("1,024 then", u.x.wired(0, 0, 1), 1024);
     }
@@ -345,7 +365,8 @@ public final class AnswerEdgesTest {
     }
 
     private static void imagesAsTheyAre() {
-        Script s = Script.of("IMAGES: CASES, LAWS, CLAUSES as they are; brought back at any time", "", "offer a b mouth at 1;");
+        Script s = Script.of("IMAGES: CASES, LAWS, CLAUSES as they are; brought back at any time", "",
+                "offer a b mouth at 1;");
         s.clause("silence 5;");
         s.x.image();
         String state = s.whole();
@@ -369,8 +390,10 @@ public final class AnswerEdgesTest {
 
     private static void hangsOnTheFewest() {
         String name = "HANGS: the fewest ASKED ones that, known, tell whether there is a bargain";
-        String[] tales = {"offer a b mouth at 10;yes b 0 mouth at 12;", "offer a b mouth at 10 to 12;yes b 0 mouth at 12 to 14;",
-            "offer a b mouth at 10 to 12;yes b 0 mouth at 7 to 9;", "offer a b mouth at 10 to 11;yes b 0 mouth at 10 to 11;",
+        String[] tales = {"offer a b mouth at 10;yes b 0 mouth at 12;",
+            "offer a b mouth at 10 to 12;yes b 0 mouth at 12 to 14;",
+            "offer a b mouth at 10 to 12;yes b 0 mouth at 7 to 9;",
+            "offer a b mouth at 10 to 11;yes b 0 mouth at 10 to 11;",
             "ask a b post at 1 to 2 after 1 lost;offer a b mouth at 10;yes b 1 mouth at 9 to 10;",
             "offer a b post at 1 after 1 lost;offer a b post at 1 after 1 lost;yes b 0 mouth at 5;yes b 1 mouth at 6;",
             "offer a b post at 1 after 1 lost;offer a b post at 1 after 1 lost;yes b 0 mouth at 5;yes b 1 mouth at 1;"};
@@ -382,14 +405,18 @@ public final class AnswerEdgesTest {
         // Only the last COMBO of a span turns the answer.
         Script s = Script.of(name, "", "offer a b mouth at 0 to 15;yes b 0 mouth at 14;ask a b mouth at 0 to 15;");
         s.due("the last of 16", s.x.hang(0, 0), 1);
-        Script t = Script.of(name, "", "ask a b mouth at 0 to 15;ask a b mouth at 0 to 3;offer a b mouth at 0 to 15;yes b 2 mouth at 14;");
+        s.tell("offer a b mouth at 1;yes b 0 mouth at 2 to 3;");
+        s.due("of two COMBOS behind that", s.x.hang(1, 0), 0);
+        Script t = Script.of(name, "",
+                "ask a b mouth at 0 to 15;ask a b mouth at 0 to 3;offer a b mouth at 0 to 15;yes b 2 mouth at 14;");
         t.due("1,024 COMBOS", t.x.asked(0, 2), 1024);
         t.due("the last of 1,024", t.x.hang(0, 0), 4);
     }
 
     private static void hangsWithUpTo12() {
         String one = "ask a b post at 1 to 1 after 1 to 1 read 1 to 1;";
-        Script s = Script.of("HANGS: of a CASE with up to 12 ASKED ones", "", Script.times(one, 3) + "ask a b post at 1 to 1 after 1 to 1;"
+        Script s = Script.of("HANGS: of a CASE with up to 12 ASKED ones", "", Script.times(one, 3)
+                + "ask a b post at 1 to 1 after 1 to 1;"
                 + "offer a b post at 1 after 1 lost;yes b 4 mouth at 9;");
         s.due("12 ASKED ones", s.x.asked(0, 1), 12);
         s.due("the twelfth", s.x.hang(0, 0), 1 << 11);
@@ -397,7 +424,8 @@ public final class AnswerEdgesTest {
         s.due("13 ASKED ones", s.x.asked(0, 1), 13);
         s.due("LOOKED at", s.x.asked(0, 2), 2);
         s.due("refused", s.x.hang(0, 0), -2);
-        Script t = Script.of("10 that are ASKED with two answers each", "", Script.times("ask a b post at 1 after 1 lost;", 9)
+        Script t = Script.of("10 that are ASKED with two answers each", "",
+                Script.times("ask a b post at 1 after 1 lost;", 9)
                 + "offer a b post at 1 after 1 lost;yes b 9 mouth at 9;");
         t.due("the tenth", t.x.hang(0, 0), 1 << 9);
     }
@@ -427,8 +455,10 @@ public final class AnswerEdgesTest {
         String name = "APART: both at unlike hours";
         apart(name, "", "yes all sent;", "offer a b mouth at 10;yes b 0 post at 11 after 0 to 3;", 3, 1);
         apart(name, "", "yes all sent;", "offer a b mouth at 10;yes b 0 mouth at 11 to 13;", 0, -1);
-        apart("one hour, by silence and by a YES", "silence 5;", "", "offer a b mouth at 10;yes b 0 mouth at 15;", 0, -1);
-        apart("one hour, on unlike OFFERS that tell the same", "silence 5;", "", "offer a c mouth at 10;offer a b mouth at 1;"
+        apart("one hour, by silence and by a YES", "silence 5;", "", "offer a b mouth at 10;yes b 0 mouth at 15;", 0,
+                -1);
+        apart("one hour, on unlike OFFERS that tell the same", "silence 5;", "",
+                "offer a c mouth at 10;offer a b mouth at 1;"
                 + "deed b 1 mouth at 2;yes b 1 mouth at 15;", 0, -1);
     }
 
@@ -439,12 +469,15 @@ public final class AnswerEdgesTest {
         apart(name, "but small;form first;", "but small;form none;", small, 1, 0);
         apart(name, "but small;form last;", "but small;form none;", small, 1, 0);
         apart("told alike", "but small;form first;", "but small;form last;", small.replace("port 2", "port 1"), 0, -1);
-        apart("0 and none", "but small;form last;", "but small;form first;", "offer a b mouth at 10;yes b 0 but court 0 mouth at 11;", 1, 0);
-        apart("none and none", "but small;form first;", "but small;form none;", "offer a b mouth at 10;yes b 0 but court 0 mouth at 11;", 0, -1);
+        apart("0 and none", "but small;form last;", "but small;form first;",
+                "offer a b mouth at 10;yes b 0 but court 0 mouth at 11;", 1, 0);
+        apart("none and none", "but small;form first;", "but small;form none;",
+                "offer a b mouth at 10;yes b 0 but court 0 mouth at 11;", 0, -1);
     }
 
     private static void shortestWithTheFewestSayings() {
-        Script s = Script.of("The SHORTEST CASE: the one with the fewest SAYINGS (the least)", "", "ask a b mouth at 1;");
+        Script s = Script.of("The SHORTEST CASE: the one with the fewest SAYINGS (the least)", "",
+                "ask a b mouth at 1;");
         String parts = "offer a b mouth at 1;yes b 0 post at 2 after 1;";
         String partsOnce = "offer a b mouth at 1;yes b 0 mouth at 2 to 17;back a 0 post at 18 after 5;";
         s.law("yes all sent;");
@@ -460,12 +493,15 @@ public final class AnswerEdgesTest {
         s.due("2 SAYINGS, the least", s.x.part(1, 0), 4);
         s.tell(partsOnce);
         s.due("2 SAYINGS, the least", s.x.part(1, 0), 4);
+        s.tell(parts + "ask a b mouth at 1;");
+        s.due("not a longer one behind it", s.x.part(1, 0), 4);
         s.law("silence 5;");
         s.due("unlike LAWS, a CASE of their own", s.x.part(2, 0), 6);
         s.tell("offer a b mouth at 1;");
-        s.due("one SAYING", s.x.part(2, 0), 7);
+        s.due("one SAYING", s.x.part(2, 0), 8);
         s.due("with itself", s.x.part(2, 2), -1);
-        Script t = Script.of("12 SAYINGS", "", Script.times("ask a b mouth at 1;", 10) + "offer a b mouth at 1;yes b 10 post at 2 after 1;");
+        Script t = Script.of("12 SAYINGS", "", Script.times("ask a b mouth at 1;", 10)
+                + "offer a b mouth at 1;yes b 10 post at 2 after 1;");
         t.law("yes all sent;");
         t.due("the one", t.x.part(0, 1), 0);
         for (int i = 1; i < 15; i++) {
@@ -476,7 +512,8 @@ public final class AnswerEdgesTest {
     }
 
     private static void shortestOfThoseLookedAt() {
-        Script s = Script.of("of those LOOKED at that have such a COMBO", "", "offer a b mouth at 1;yes b 0 post at 2 to 17 after 1 to 16 read 1 to 16;");
+        Script s = Script.of("of those LOOKED at that have such a COMBO", "",
+                "offer a b mouth at 1;yes b 0 post at 2 to 17 after 1 to 16 read 1 to 16;");
         s.law("yes all sent;");
         s.due("none is LOOKED at", s.x.part(0, 1), -1);
         s.tell("offer a b mouth at 1;yes b 0 post at 2 to 17 after 1 to 16 read 1 to 4;ask a b mouth at 1;");
@@ -492,7 +529,8 @@ public final class AnswerEdgesTest {
     }
 
     private static void writtenTheFewest() {
-        Script s = Script.of("WRITTEN: the fewest CLAUSES", "", "offer a b hold 20 mouth at 10;yes b 0 post at 12 after 5;back a 0 mouth at 15;");
+        Script s = Script.of("WRITTEN: the fewest CLAUSES", "",
+                "offer a b hold 20 mouth at 10;yes b 0 post at 12 after 5;back a 0 mouth at 15;");
         s.due("no CLAUSES", s.x.write(0), -1);
         s.clause("risk come;");
         s.due("none helps", s.x.write(0), -1);
@@ -507,7 +545,8 @@ public final class AnswerEdgesTest {
     }
 
     private static void writtenTheLeastBits() {
-        Script s = Script.of("WRITTEN: of as few the least bits", "", "offer a b hold 20 mouth at 10;yes b 0 post at 12 after 5;back a 0 mouth at 15;");
+        Script s = Script.of("WRITTEN: of as few the least bits", "",
+                "offer a b hold 20 mouth at 10;yes b 0 post at 12 after 5;back a 0 mouth at 15;");
         s.clause("risk come;");
         s.clause("yes post sent;");
         s.clause("hold binds;");
@@ -517,7 +556,8 @@ public final class AnswerEdgesTest {
 
     private static void writtenInTheirOrder() {
         // Needed are both "yes post sent" and "hold binds": two CLAUSES whose order doesn't undo one of them.
-        Script s = Script.of("WRITTEN: (in their order)", "yes all read;", "offer a b hold 20 mouth at 10;back a 0 mouth at 11;"
+        Script s = Script.of("WRITTEN: (in their order)", "yes all read;",
+                "offer a b hold 20 mouth at 10;back a 0 mouth at 11;"
                 + "yes b 0 post at 12 after 50;");
         s.clause("yes post sent;");
         s.clause("hold binds;yes post come;");
@@ -533,7 +573,8 @@ public final class AnswerEdgesTest {
     }
 
     private static void writtenInEachComboByEachLaw() {
-        Script s = Script.of("WRITTEN: in each COMBO by each LAW", "", "offer a b mouth at 10;yes b 0 post at 12 after 0 to 15;back a 0 mouth at 27;");
+        Script s = Script.of("WRITTEN: in each COMBO by each LAW", "",
+                "offer a b mouth at 10;yes b 0 post at 12 after 0 to 15;back a 0 mouth at 27;");
         s.clause("yes post sent;");
         s.due("the last COMBO needs it", s.x.write(0), 1);
         s.law("yes all read;back read;lapse 0;");
@@ -553,8 +594,51 @@ public final class AnswerEdgesTest {
         t.due("in all", t.x.write(0), 1);
     }
 
+    /** Of each LAW and each COMBO: also of those ahead of the one at which other CLAUSES came to nothing. */
+    private static void writtenFromTheFirstOn() {
+        Script s = Script.of("WRITTEN: by each LAW, the first, too", "but small;",
+                "offer a b hold 20 mouth at 10;back a 0 mouth at 11;"
+                + "yes b 0 but port 1 mouth at 12;");
+        s.law("hold binds;");
+        s.clause("risk come;");
+        s.clause("hold binds;");
+        s.clause("but small;");
+        s.due("two", s.x.write(0), 6);
+        s.due("again", s.x.write(0), 6);
+        Script t = Script.of("WRITTEN: in each COMBO, the first, too", "lapse 0;",
+                "offer a b post at 10 after 0 read 3;"
+                + "yes b 0 post at 12 after 0 to 3;");
+        t.clause("lapse 3;");
+        t.clause("lapse 9;offer read;");
+        t.due("none", t.x.write(0), -1);
+        t.clause("lapse 9;");
+        t.due("the third", t.x.write(0), 4);
+        t.due("again", t.x.write(0), 4);
+    }
+
+    private static void writtenChangesNothing() {
+        Script s = new Script("WRITTEN: the LAWS stay as they are, also for CASES that are given");
+        s.tell("offer a b mouth at 1;deed b 0 mouth at 2;");
+        for (int i = 1; i < 16; i++) {
+            s.tell("offer a b given " + (i - 1) + " mouth at 1;yes b 0 mouth at 2;");
+        }
+        for (int i = 0; i < 8; i++) {
+            s.law(i % 2 == 0 ? "" : "deed yes;");
+        }
+        s.clause("deed yes;");
+        for (int turn = 0; turn < 2; turn++) {
+            for (int law = 0; law < 8; law++) {
+                for (int number = 3; number < 16; number += 6) {
+                    s.due("by LAW " + law, s.x.run(number, law, 0, 2), law % 2 == 0 ? -2 : 2);
+                }
+            }
+            s.due("written", s.x.write(15), 1);
+        }
+    }
+
     private static void writtenWithAllSix() {
-        Script s = Script.of("WRITTEN: all six CLAUSES", "offer read;no sent;yes all read;", "offer a b mouth at 1;deed b 0 mouth at 2;");
+        Script s = Script.of("WRITTEN: all six CLAUSES", "offer read;no sent;yes all read;",
+                "offer a b mouth at 1;deed b 0 mouth at 2;");
         s.tell("offer a b hold 50 given 0 post at 10 after 2 read 20;back a 0 mouth at 13;no b 0 post at 12 after 50;"
                 + "yes b 0 but port 1 wire at 14 after 10 read 10;back b 3 mouth at 20;");
         String[] clauses = {"but small;", "yes wire sent;", "hold binds;", "offer come;", "no come;", "deed yes;"};
@@ -566,8 +650,10 @@ public final class AnswerEdgesTest {
         s.due("the last alone", s.x.write(0), 32);
         s.due("as it is, none", s.x.run(1, 0, 0, 0), -2);
         for (int left = 0; left < 6; left++) {
-            Script t = Script.of("all but one", "offer read;no sent;yes all read;", "offer a b mouth at 1;deed b 0 mouth at 2;");
-            t.tell("offer a b hold 50 given 0 post at 10 after 2 read 20;back a 0 mouth at 13;no b 0 post at 12 after 50;"
+            Script t = Script.of("all but one", "offer read;no sent;yes all read;",
+                    "offer a b mouth at 1;deed b 0 mouth at 2;");
+            t.tell("offer a b hold 50 given 0 post at 10 after 2 read 20;back a 0 mouth at 13;"
+                    + "no b 0 post at 12 after 50;"
                     + "yes b 0 but port 1 wire at 14 after 10 read 10;back b 3 mouth at 20;");
             for (int i = 0; i < 6; i++) {
                 t.clause(i == left ? "risk come;" : clauses[i]);

@@ -282,6 +282,10 @@ public final class CaseEdgesTest {
     private static void saidIsAheadOfThisOne() {
         Script s = new Script("SAID: a SAYING ahead of this one in its CASE");
         s.badCase("yes b ^0 mouth at 1;");
+        for (String verb : new String[] {"yes b", "no b", "deed b", "back a", "send a"}) {
+            s.badCase(OFFER + verb + " ^mouth at 2;");
+            s.badCase(OFFER + verb + " 0 ^0 mouth at 2;");
+        }
         for (String said : new String[] {"1", "2", "9999", "00000", "-1", "x", ""}) {
             s.badCase(OFFER + "yes b ^" + said + ";" + OFFER);
             s.badCase(OFFER + "no b ^" + said + ";" + OFFER);
@@ -590,7 +594,8 @@ public final class CaseEdgesTest {
     }
 
     private static void comesAfterAndIsReadBehindThat() {
-        Script s = Script.ofCase("it comes so many hours \"after\" and is read so many behind that", "ask a b post at 1999 "
+        Script s = Script.ofCase("it comes so many hours \"after\" and is read so many behind that",
+                "ask a b post at 1999 "
                 + "after 999 read 999;ask a b wire at 0 after 0 read 0;ask a b post at 5 after 6;");
         int[][] due = {{1999, 2998, 3997}, {0, 0, 0}, {5, 11, 11}};
         for (int k = 0; k < 3; k++) {
@@ -624,8 +629,8 @@ public final class CaseEdgesTest {
     private static void toldAsOneNumberIsNotAsked() {
         Script s = new Script("What isn't told as one number (and each \"lost\") is OPEN TO ASK");
         String[] texts = {"post at 1 after 1 read 1", "post at 1 to 2 after 1 read 1", "post at 1 after 1 to 2 read 1",
-            "post at 1 after 1 read 1 to 2", "post at 1 after 1 read 1 lost", "post at 1 to 2 after 1 to 2 read 1 to 2 lost",
-            "post at 1 to 1 after 1 read 1"};
+            "post at 1 after 1 read 1 to 2", "post at 1 after 1 read 1 lost",
+            "post at 1 to 2 after 1 to 2 read 1 to 2 lost", "post at 1 to 1 after 1 read 1"};
         int[] asked = {0, 1, 1, 1, 1, 4, 1};
         int[] combos = {1, 2, 2, 2, 2, 16, 1};
         for (int i = 0; i < texts.length; i++) {
@@ -638,7 +643,8 @@ public final class CaseEdgesTest {
     private static void askedInOrder() {
         // Which of them a bargain hangs on shows each one's bit, and so its place in the order.
         String offer = "offer a b post at 1 to 2 after 1 to 2 read 1 to 2 lost;";
-        Script s = Script.of("ASKED in order: by SAYINGS, of each its \"at\", \"after\", \"read\", \"lost\"", "offer read;",
+        Script s = Script.of("ASKED in order: by SAYINGS, of each its \"at\", \"after\", \"read\", \"lost\"",
+                "offer read;",
                 "ask a b post at 1 to 3 after 1 lost;" + offer.replace("lost", "") + "yes b 1 mouth at 5 to 6;");
         s.due("6 ASKED ones", s.x.asked(0, 1), 6);
         s.due("not the ask's, but all of the others", s.x.hang(0, 0), 4 | 8 | 16 | 32);
@@ -649,7 +655,8 @@ public final class CaseEdgesTest {
     }
 
     private static void combosFirstOneLowest() {
-        Script s = Script.ofCase("A COMBO: of each ASKED one its how-manyth, the first one lowest", "ask a b post at 10 to 11 "
+        Script s = Script.ofCase("A COMBO: of each ASKED one its how-manyth, the first one lowest",
+                "ask a b post at 10 to 11 "
                 + "after 100 to 102 read 20 to 23 lost;ask b c mouth at 7 to 11;ask b c wire at 0 after 0 lost;");
         s.due("COMBOS", s.x.asked(0, 2), 2 * 3 * 4 * 2 * 5 * 2);
         int combo = 0;
@@ -688,7 +695,8 @@ public final class CaseEdgesTest {
         for (int i = 0; i < texts.length; i++) {
             s.due("told", s.tell(texts[i]), i);
             s.due("COMBOS of " + texts[i], s.x.asked(i, 2), combos[i]);
-            s.due("LOOKED at: " + texts[i], s.x.hour(i, 0, 0, 0), combos[i] == -1 ? -2 : texts[i].contains("at 0") ? 0 : 1);
+            s.due("LOOKED at: " + texts[i], s.x.hour(i, 0, 0, 0),
+                    combos[i] == -1 ? -2 : texts[i].contains("at 0") ? 0 : 1);
         }
         s.due("the last of 1,024", s.x.hour(0, 1023, 0, 2), 15 + 15 + 3);
         s.due("behind it", s.x.hour(0, 1024, 0, 2), -2);
@@ -697,11 +705,13 @@ public final class CaseEdgesTest {
         s.due("too many", s.x.hour(0, 0, 0, 2), -2);
         // 2 to the 32nd and beyond: a product of ints would wrap around to 0, or to 1,024 and less.
         for (int many = 7; many <= 12; many++) {
-            Script t = Script.ofCase("COMBOS beyond an int", Script.times("ask a b post at 0 to 15 after 0 to 15;", many));
+            Script t = Script.ofCase("COMBOS beyond an int", Script.times("ask a b post at 0 to 15 after 0 to 15;",
+                    many));
             t.due("not LOOKED at", t.x.asked(0, 2), -1);
             t.due("ASKED all the same", t.x.asked(0, 1), 2 * many);
         }
-        Script u = Script.ofCase("COMBOS beyond a long", Script.times("ask a b post at 0 to 15 after 0 to 15 read 0 to 15 lost;", 12));
+        Script u = Script.ofCase("COMBOS beyond a long",
+                Script.times("ask a b post at 0 to 15 after 0 to 15 read 0 to 15 lost;", 12));
         u.due("not LOOKED at", u.x.asked(0, 2), -1);
     }
 }

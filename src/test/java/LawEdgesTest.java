@@ -123,11 +123,12 @@ public final class LawEdgesTest {
     }
 
     private static void rulesAreSo() {
-        String[] bad = {"^ask sent;", "^rule;", "^7;", "^;", "^yess all sent;", "yes ^deed sent;", "yes ^sent;", "yes all^;",
-            "yes all ^post;", "yes all ^", "yes all sent^", "yes all sent ^sent;", "offer ^all sent;", "offer ^went;",
-            "offer ^", "back ^7;", "back ^", "no ^yes;", "no ^", "hold ^bind;", "hold ^7;", "hold ^", "lapse ^none;",
-            "lapse ^", "silence ^come;", "silence ^", "but ^yes;", "but ^large;", "but ^", "form ^middle;", "form ^",
-            "deed ^no;", "deed ^", "risk ^read;", "risk ^", "risk come^", "no sent;^;", "no sent;no^", "no sent^,"};
+        String[] bad = {"^ask sent;", "^rule;", "^7;", "^;", "^yess all sent;", "yes ^deed sent;", "yes ^sent;",
+            "yes all^;", "yes all ^post;", "yes all ^", "yes all sent^", "yes all sent ^sent;", "offer ^all sent;",
+            "offer ^went;", "offer ^", "back ^7;", "back ^", "no ^yes;", "no ^", "hold ^bind;", "hold ^7;", "hold ^",
+            "lapse ^none;", "lapse ^", "silence ^come;", "silence ^", "but ^yes;", "but ^large;", "but ^",
+            "form ^middle;", "form ^", "deed ^no;", "deed ^", "risk ^read;", "risk ^", "risk come^", "no sent;^;",
+            "no sent;no^", "no sent^,"};
         for (String one : bad) {
             Script s = new Script("RULE");
             s.badLaw(one);
@@ -155,12 +156,13 @@ public final class LawEdgesTest {
 
     private static void toldAgainTheLastHolds() {
         String[] laws = {"yes all sent;yes wire read;", "yes wire read;yes all sent;", "yes post read;yes post sent;",
-            "offer read;offer sent;", "back sent;back read;back sent;", "no read;no come;no sent;", "hold free;hold binds;",
-            "lapse 9;lapse 0;", "silence 0;silence 9;", "but no;but small;", "form none;form last;", "deed none;deed yes;",
-            "risk sent;risk come;"};
+            "offer read;offer sent;", "back sent;back read;back sent;", "no read;no come;no sent;",
+            "hold free;hold binds;", "lapse 9;lapse 0;", "silence 0;silence 9;", "but no;but small;",
+            "form none;form last;", "deed none;deed yes;", "risk sent;risk come;"};
         // The number in laws, what is asked of it, the answer.
-        int[][] due = {{0, 0, 0}, {0, 1, 2}, {0, 2, 0}, {1, 0, 0}, {1, 1, 0}, {1, 2, 0}, {2, 0, 0}, {2, 1, 1}, {3, 3, 0},
-            {4, 4, 0}, {5, 5, 0}, {6, 6, 1}, {7, 7, 0}, {8, 8, 9}, {9, 9, 1}, {10, 10, 1}, {11, 11, 1}, {12, 12, 2}};
+        int[][] due = {{0, 0, 0}, {0, 1, 2}, {0, 2, 0}, {1, 0, 0}, {1, 1, 0}, {1, 2, 0}, {2, 0, 0}, {2, 1, 1},
+            {3, 3, 0}, {4, 4, 0}, {5, 5, 0}, {6, 6, 1}, {7, 7, 0}, {8, 8, 9}, {9, 9, 1}, {10, 10, 1}, {11, 11, 1},
+            {12, 12, 2}};
         for (int[] one : due) {
             Script s = new Script("Of what is told again the last one holds");
             s.law(laws[one[0]]);
@@ -220,8 +222,9 @@ public final class LawEdgesTest {
     }
 
     private static void smallTellsPortOrCourtAlone() {
-        String[] told = {"port 2", "court 2", "port 2 court 3", "court 3 port 2", "port 0", "price 2", "much 2", "day 2",
-            "port 2 day 3", "price 1 court 2", "much 0 port 0 court 0", "price 1 much 2 day 3 port 4 court 5"};
+        String[] told = {"port 2", "court 2", "port 2 court 3", "court 3 port 2", "port 0", "price 2", "much 2",
+            "day 2", "port 2 day 3", "price 1 court 2", "much 0 port 0 court 0",
+            "price 1 much 2 day 3 port 4 court 5"};
         for (int i = 0; i < told.length; i++) {
             boolean small = i < 5;
             Script s = Script.of("A SMALL one tells port or court alone", "but small;", "offer a b price 1 mouth at 1;"
@@ -231,7 +234,8 @@ public final class LawEdgesTest {
             s.due(told[i] + ", the end of what it answers", s.x.open(0, 0, 0, 0, 1), small ? 9999 : 2);
             s.due(told[i] + ", a yes with but all the same", s.x.saying(0, 1, 0), 3);
         }
-        noBargain("SMALL, if the LAW's \"but\" is small", "but small;but no;", "offer a b mouth at 1;yes b 0 but port 2 mouth at 2;");
+        noBargain("SMALL, if the LAW's \"but\" is small", "but small;but no;",
+                "offer a b mouth at 1;yes b 0 but port 2 mouth at 2;");
     }
 
     private static void otherButsAreNoAndOffers() {
@@ -250,7 +254,8 @@ public final class LawEdgesTest {
     private static void givenWithABargainInAllCombos() {
         String name = "An OFFER with \"given\": if that CASE is LOOKED at and has a bargain by the LAW in all COMBOS";
         String given = "offer a b given 0 post at 10 after 2;yes b 0 mouth at 12;";
-        String[] sure = {"offer a b mouth at 1;yes b 0 mouth at 2;", "offer a b mouth at 1 to 2;yes b 0 post at 2 after 1 to 2;",
+        String[] sure = {"offer a b mouth at 1;yes b 0 mouth at 2;",
+            "offer a b mouth at 1 to 2;yes b 0 post at 2 after 1 to 2;",
             "offer a b mouth at 0 to 15;yes b 0 mouth at 15 to 30;ask a b mouth at 0 to 3;"};
         for (String one : sure) {
             Script s = Script.of(name, "", one);
@@ -291,7 +296,8 @@ public final class LawEdgesTest {
     }
 
     private static void givenByTheLaw() {
-        Script s = Script.of("given: a bargain by the LAW", "yes all sent;", "offer a b hold 9 mouth at 1;yes b 0 post at 5 after 9;");
+        Script s = Script.of("given: a bargain by the LAW", "yes all sent;",
+                "offer a b hold 9 mouth at 1;yes b 0 post at 5 after 9;");
         s.law("");
         s.tell("offer a b given 0 mouth at 10;yes b 0 mouth at 12;");
         s.due("by the one", s.x.run(1, 0, 0, 2), 12);
@@ -366,7 +372,8 @@ public final class LawEdgesTest {
         opens(name, "no sent;", tale, 1, 20, 2);
         opens(name, "no come;", tale, 1, 23, 2);
         opens(name, "no read;", tale, 1, 25, 2);
-        opens("a hold that binds lets a no", "hold binds;", "offer a b hold 50 mouth at 1;no b 0 mouth at 20;", 1, 20, 2);
+        opens("a hold that binds lets a no", "hold binds;", "offer a b hold 50 mouth at 1;no b 0 mouth at 20;", 1, 20,
+                2);
         String but = "offer a b mouth at 1;yes b 0 but day 1 post at 20 after 3 read 2;";
         opens(name, "no sent;yes all read;", but, 1, 20, 2);
         opens(name, "no read;yes all sent;", but, 1, 25, 2);
@@ -401,7 +408,8 @@ public final class LawEdgesTest {
         opens("with a hold", "lapse 999;", "offer a b hold 30 mouth at 10;", 10, 31, 3);
         Script s = Script.of("it never comes", "lapse 8;offer sent;", "offer a b post at 10 after 2 lost;");
         checkOpen(s, "lost", 1, 0, 10, 9999, 0);
-        Script t = Script.of("of a yes with but", "lapse 8;", "offer a b mouth at 1;yes b 0 but day 1 post at 2 after 3;");
+        Script t = Script.of("of a yes with but", "lapse 8;",
+                "offer a b mouth at 1;yes b 0 but day 1 post at 2 after 3;");
         checkOpen(t, "a yes with but", 0, 1, 5, 14, 4);
     }
 
@@ -461,8 +469,10 @@ public final class LawEdgesTest {
         noBargain(name, "deed none;yes all sent;", tale);
         bargainAt(name, "deed yes;", tale, 5);
         bargainAt(name, "deed yes;yes all read;", tale, 5);
-        noBargain("a deed ahead of the OFFER's coming", "deed yes;", "offer a b mouth at 6;deed b 0 post at 5 after 2;");
-        Script s = Script.of("a yes by the way of a deed is no deed", "deed none;", "offer a b mouth at 1;yes b 0 deed at 5;");
+        noBargain("a deed ahead of the OFFER's coming", "deed yes;",
+                "offer a b mouth at 6;deed b 0 post at 5 after 2;");
+        Script s = Script.of("a yes by the way of a deed is no deed", "deed none;",
+                "offer a b mouth at 1;yes b 0 deed at 5;");
         s.due("the YES", s.x.run(0, 0, 0, 0), 1);
     }
 
@@ -478,7 +488,8 @@ public final class LawEdgesTest {
         noBargain("a deed", "deed yes;offer sent;", offer + "deed b 0 mouth at 14;");
         bargainAt("a deed", "deed yes;offer sent;", offer + "deed b 0 mouth at 15;", 15);
         bargainAt("come, not read", "offer come;", "offer a b post at 10 after 5 read 9;yes b 0 mouth at 15;", 15);
-        Script s = Script.of("an OFFER that never comes", "offer sent;", "offer a b post at 10 after 5 lost;yes b 0 mouth at 99;");
+        Script s = Script.of("an OFFER that never comes", "offer sent;",
+                "offer a b post at 10 after 5 lost;yes b 0 mouth at 99;");
         s.due("not lost", s.x.run(0, 0, 0, 2), 99);
         s.due("lost", s.x.run(0, 0, 1, 2), -2);
     }
@@ -499,8 +510,10 @@ public final class LawEdgesTest {
         Script s = Script.of("a lost back has none", "", yes + "back b 1 wire at 6 after 3 lost;");
         s.due("not lost", s.x.run(0, 0, 0, 2), -2);
         s.due("lost", s.x.run(0, 0, 1, 2), 10);
-        noBargain("a SMALL one", "but small;", "offer a b mouth at 1;yes b 0 but port 1 post at 5 after 5;back b 1 mouth at 9;");
-        bargainAt("a SMALL one", "but small;", "offer a b mouth at 1;yes b 0 but port 1 post at 5 after 5;back b 1 mouth at 10;", 10);
+        noBargain("a SMALL one", "but small;",
+                "offer a b mouth at 1;yes b 0 but port 1 post at 5 after 5;back b 1 mouth at 9;");
+        bargainAt("a SMALL one", "but small;",
+                "offer a b mouth at 1;yes b 0 but port 1 post at 5 after 5;back b 1 mouth at 10;", 10);
     }
 
     private static void offerIsOpenAtTheYesHour() {
@@ -522,14 +535,19 @@ public final class LawEdgesTest {
         bargainAt(name, "silence 5;offer sent;", offer, 20);
         bargainAt("the greatest", "silence 999;", "offer a b post at 1999 after 999 read 999;", 4996);
         bargainAt("at hour 0", "silence 0;", "offer a b mouth at 0;", 0);
-        Script s = Script.of("a lost one is never read", "silence 5;offer sent;", "offer a b post at 10 after 2 read 3 lost;");
-        s.due("lost", s.x.run(0, 0, 1, 2), -2);
+        for (int number : new int[] {0, 5, 11, 99, 999}) {
+            Script s = Script.of("a lost one is never read", "silence " + number + ";offer sent;",
+                    "offer a b post at 10 after 2 read 3 lost;");
+            s.due("not lost", s.x.run(0, 0, 0, 2), 15 + number);
+            s.due("lost", s.x.run(0, 0, 1, 2), -2);
+        }
         Script t = Script.of("by silence", "silence 5;", offer);
         t.due("the YES", t.x.run(0, 0, 0, 0), -1);
         t.due("the OFFER", t.x.run(0, 0, 0, 1), 0);
         noBargain("an ask is no OFFER", "silence 5;", "ask a b mouth at 1;");
         bargainAt("a yes with but is one", "silence 5;", "offer a b mouth at 1;yes b 0 but day 1 mouth at 6;", 11);
-        noBargain("a SMALL one is none", "silence 5;but small;", "offer a b hold 1 mouth at 1;yes b 0 but port 1 mouth at 6;");
+        noBargain("a SMALL one is none", "silence 5;but small;",
+                "offer a b hold 1 mouth at 1;yes b 0 but port 1 mouth at 6;");
     }
 
     private static void silenceIfOpenThen() {
@@ -566,7 +584,8 @@ public final class LawEdgesTest {
     private static void theLeastHour() {
         String name = "The bargain is the one with the least hour";
         String two = "offer a b mouth at 1;offer b a mouth at 1;";
-        Script s = Script.of(name, "", two + "yes b 0 mouth at 9;yes a 1 mouth at 8;yes b 0 mouth at 7;yes a 1 mouth at 8;");
+        Script s = Script.of(name, "", two
+                + "yes b 0 mouth at 9;yes a 1 mouth at 8;yes b 0 mouth at 7;yes a 1 mouth at 8;");
         s.due("the YES", s.x.run(0, 0, 0, 0), 4);
         s.due("the OFFER", s.x.run(0, 0, 0, 1), 0);
         s.due("the hour", s.x.run(0, 0, 0, 2), 7);
@@ -577,7 +596,8 @@ public final class LawEdgesTest {
     }
 
     private static void atOneHourAYesThenTheLesser() {
-        Script s = Script.of("at one hour a YES's ahead of silence's", "silence 5;", "offer a c mouth at 1;offer a b mouth at 1;"
+        Script s = Script.of("at one hour a YES's ahead of silence's", "silence 5;",
+                "offer a c mouth at 1;offer a b mouth at 1;"
                 + "ask a b mouth at 1;yes b 1 mouth at 6;");
         s.due("the YES", s.x.run(0, 0, 0, 0), 3);
         s.due("its OFFER", s.x.run(0, 0, 0, 1), 1);
@@ -586,7 +606,8 @@ public final class LawEdgesTest {
                 + "deed b 1 mouth at 6;yes b 0 mouth at 6;deed b 0 mouth at 6;");
         t.due("the YES", t.x.run(0, 0, 0, 0), 2);
         t.due("its OFFER", t.x.run(0, 0, 0, 1), 1);
-        Script u = Script.of("of silence: the OFFER's", "silence 5;", "ask a b mouth at 1;offer c b mouth at 3;offer b a mouth at 2;"
+        Script u = Script.of("of silence: the OFFER's", "silence 5;",
+                "ask a b mouth at 1;offer c b mouth at 3;offer b a mouth at 2;"
                 + "offer a b mouth at 2;");
         u.due("the OFFER", u.x.run(0, 0, 0, 1), 2);
         u.due("the hour", u.x.run(0, 0, 0, 2), 7);
@@ -594,7 +615,8 @@ public final class LawEdgesTest {
 
     private static void wordsOfAnOffer() {
         Script s = Script.of("WORDS of a \"yes\" with \"but\": its own over those of the OFFER that it answers", "",
-                "offer a b price 1 much 2 day 3 mouth at 1;yes b 0 but price 4 mouth at 2;yes a 1 but port 0 mouth at 3;"
+                "offer a b price 1 much 2 day 3 mouth at 1;yes b 0 but price 4 mouth at 2;"
+                        + "yes a 1 but port 0 mouth at 3;"
                         + "yes b 2 but price 999 mouth at 4;yes a 3 mouth at 5;");
         int[] due = {999, 2, 3, 0, -1};
         for (int w = 0; w < 5; w++) {
@@ -608,6 +630,11 @@ public final class LawEdgesTest {
         t.due("the OFFER", t.x.run(0, 0, 0, 1), 10);
         t.due("day", t.x.run(0, 0, 0, 12), 10);
         t.due("court", t.x.run(0, 0, 0, 14), 7);
+        String twelve = tale + "yes b 10 but day 11 mouth at 1;";
+        Script v = Script.of("through all twelve", "silence 5;", twelve);
+        v.due("the OFFER", v.x.run(0, 0, 0, 1), 11);
+        v.due("day", v.x.run(0, 0, 0, 12), 11);
+        v.due("court", v.x.run(0, 0, 0, 14), 7);
         Script u = Script.of("as told (NONE: not)", "", "offer a b price 0 mouth at 1;yes b 0 mouth at 2;");
         u.due("price", u.x.run(0, 0, 0, 10), 0);
         u.due("much", u.x.run(0, 0, 0, 11), -1);
@@ -618,11 +645,13 @@ public final class LawEdgesTest {
         String[] forms = {"", "form first;", "form last;", "form none;"};
         int[][] due = {{9, -1, -1, 1, -1}, {9, -1, -1, 1, -1}, {9, -1, -1, 2, 3}, {9, -1, -1, -1, -1}};
         for (int i = 0; i < 4; i++) {
-            Script s = Script.of("those that a SMALL one tells: by \"form\": the OFFER's, the SMALL one's, none", "but small;" + forms[i], tale);
+            Script s = Script.of("those that a SMALL one tells: by \"form\": the OFFER's, the SMALL one's, none",
+                    "but small;" + forms[i], tale);
             for (int w = 0; w < 5; w++) {
                 s.due(forms[i] + " WORD " + w, s.x.run(0, 0, 0, 10 + w), due[i][w]);
             }
-            Script t = Script.of("a plain yes tells none", "but small;" + forms[i], "offer a b price 9 port 1 mouth at 10;yes b 0 mouth at 11;");
+            Script t = Script.of("a plain yes tells none", "but small;" + forms[i],
+                    "offer a b price 9 port 1 mouth at 10;yes b 0 mouth at 11;");
             t.due("port", t.x.run(0, 0, 0, 13), 1);
             Script u = Script.of("nor does silence", "but small;silence 0;" + forms[i], tale);
             u.due("port", u.x.run(0, 0, 0, 13), 1);
@@ -633,7 +662,8 @@ public final class LawEdgesTest {
         String[] pairs = {"a b", "a c", "b a", "b c", "c a", "c b"};
         int[] due = {3, 5, 3, 6, 5, 6};
         for (int i = 0; i < 6; i++) {
-            Script s = Script.of("It BINDS the OFFER's HAND and the one to whom it's made", "silence 5;", "offer " + pairs[i] + " mouth at 1;");
+            Script s = Script.of("It BINDS the OFFER's HAND and the one to whom it's made", "silence 5;", "offer "
+                    + pairs[i] + " mouth at 1;");
             s.due(pairs[i], s.x.binds(0, 0, 0), due[i]);
         }
         Script s = Script.of("no bargain", "", "offer a b mouth at 1;");

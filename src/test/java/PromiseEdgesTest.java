@@ -1,6 +1,6 @@
 import java.util.Arrays;
 
-/** The sections 'Promise 1' to 'Promise 29': a test of its own for each sentence that names a boundary or a refused call. */
+/** The promises 1 to 29: a test of its own for each sentence that names a boundary or a refused call. */
 public final class PromiseEdgesTest {
     private static final int MIN = Integer.MIN_VALUE;
     private static final int MAX = Integer.MAX_VALUE;
@@ -29,6 +29,7 @@ public final class PromiseEdgesTest {
     }
 
     public static void main(String[] args) {
+        usedFor512Calls();
         promise1();
         promise2HighestFirst();
         promise2MoreThan900();
@@ -95,6 +96,30 @@ public final class PromiseEdgesTest {
             s.due("argument " + place + " of " + Arrays.toString(args), call.of(s.x, args), refusal);
         }
         s.sameState("refused", state);
+    }
+
+    private static void usedFor512Calls() {
+        Script s = new Script("An object is used for at most 512 calls");
+        int calls = 0;
+        for (int i = 0; i < 45; i++) {
+            s.due("feed", s.x.feed(0x20202020, 0x20202020, 0x20202020, 0x20202020, 0x20202020), 20 * (i + 1));
+            calls++;
+        }
+        s.due("law", s.x.law(900), 0);
+        s.x.feed(0x61736b20, 0x61206220, 0x6d6f7574, 0x68206174, 0x20313b20);
+        s.due("tell", s.x.tell(19), 0);
+        calls += 3;
+        while (calls < 511) {
+            s.due("write", s.x.write(0), -1);
+            calls++;
+        }
+        s.due("the 512th", s.x.hour(0, 0, 0, 2), 1);
+        // What these answer is free, but they must answer.
+        for (int i = 0; i < 5000; i++) {
+            s.x.feed(i, i, i, i, i);
+            s.x.tell(i);
+            s.x.image();
+        }
     }
 
     private static void promise1() {
@@ -323,9 +348,12 @@ public final class PromiseEdgesTest {
     }
 
     private static void promise8() {
-        Script s = full("Promise 8: to whom (offer, ask, yes with but; else NONE), SAID, \"hold\", \"given\", WORD (NONE)");
-        s.tell("offer b c price 0 court 999 hold 0 given 0 post at 1 after 1;ask c b wire at 1 after 1;yes c 0 mouth at 2;"
-                + "yes c 0 but port 5 deed at 3;no c 0 mouth at 4;back c 3 mouth at 5;deed c 0 mouth at 6;send b 0 mouth at 7;");
+        Script s = full("Promise 8: to whom (offer, ask, yes with but;"
+                + " else NONE), SAID, \"hold\", \"given\", WORD (NONE)");
+        s.tell("offer b c price 0 court 999 hold 0 given 0 post at 1 after 1;ask c b wire at 1 after 1;"
+                + "yes c 0 mouth at 2;"
+                + "yes c 0 but port 5 deed at 3;no c 0 mouth at 4;back c 3 mouth at 5;deed c 0 mouth at 6;"
+                        + "send b 0 mouth at 7;");
         int[][] due = {{0, 1, 2, -1, 0, 0, 0, 0, -1, -1, -1, 999}, {1, 2, 1, -1, 1, -1, -1, -1, -1, -1, -1, -1},
             {2, 2, -1, 0, 2, -1, -1, -1, -1, -1, -1, -1}, {3, 2, 1, 0, 3, -1, -1, -1, -1, -1, 5, -1},
             {4, 2, -1, 0, 2, -1, -1, -1, -1, -1, -1, -1}, {5, 2, -1, 3, 2, -1, -1, -1, -1, -1, -1, -1},
@@ -488,11 +516,14 @@ public final class PromiseEdgesTest {
         int[] zero = {2, 0, -1, 0, 1};
         s.tell("offer a b mouth at 5;yes b 0 mouth at 6 to 8;back b 1 mouth at 7;");
         int[] first = {2, 0, 2, 6, 7};
+        s.tell("offer a b mouth at 1;yes b 0 mouth at 5;back b 1 post at 1 after 1 lost;yes b 0 mouth at 20;");
+        int[] down = {2, 0, -1, 5, 20};
         for (int what = 0; what < 5; what++) {
             s.due("not the first, what " + what, s.x.sure(CASES, 0, what), late[what]);
             s.due("not the last, what " + what, s.x.sure(CASES + 1, 0, what), last[what]);
             s.due("hour 0, what " + what, s.x.sure(CASES + 2, 0, what), zero[what]);
             s.due("the first, what " + what, s.x.sure(CASES + 3, 0, what), first[what]);
+            s.due("the greatest first, what " + what, s.x.sure(CASES + 4, 0, what), down[what]);
         }
     }
 
@@ -540,7 +571,8 @@ public final class PromiseEdgesTest {
     }
 
     private static void promise18Told() {
-        Script s = full("Promise 18: NONE: it's right; 0 whether there is one isn't; 1 the YES isn't; 2 the hour isn't");
+        Script s = full("Promise 18: NONE: it's right; 0 whether there is one isn't; 1 the YES isn't;"
+                + " 2 the hour isn't");
         s.due("right", s.x.judge(BARGAIN, 0, 5, 1, 21), -1);
         s.due("there is one", s.x.judge(BARGAIN, 0, 5, -2, 21), 0);
         s.due("not by silence", s.x.judge(BARGAIN, 0, 5, -1, 21), 1);

@@ -99,7 +99,7 @@ final class Script {
         return s;
     }
 
-    /** How many there are of all things, to see that a refused call does nothing; few calls, as an object has but 512. */
+    /** How many there are of all things, to see that a refused call does nothing; an object has but 512 calls. */
     String state() {
         StringBuilder all = new StringBuilder("counts");
         for (int what = 0; what <= 5; what++) {
