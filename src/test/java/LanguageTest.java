@@ -45,6 +45,7 @@ public final class LanguageTest {
                 seen.add(m.getName() + " " + m.getParameterCount());
             } else {
                 check(Modifier.isPrivate(m.getModifiers()), "rule 1: visible method " + m);
+                check(!faceNames().contains(m.getName()), "rule 1: bears the name of a public method: " + m);
             }
         }
         check(seen.equals(new TreeSet<>(FACE)), "rule 1: the face is " + seen);
@@ -55,11 +56,16 @@ public final class LanguageTest {
         check(c.getDeclaredConstructors().length == 1, "rule 1: one constructor");
     }
 
-    private static void inside() {
+    private static Set<String> faceNames() {
         Set<String> names = new TreeSet<>();
         for (String one : FACE) {
             names.add(one.substring(0, one.indexOf(' ')));
         }
+        return names;
+    }
+
+    private static void inside() {
+        Set<String> names = faceNames();
         Class<?>[] classes = CrossingWords.class.getDeclaredClasses();
         check(classes.length < 12, "rule 11: too many classes");
         for (Class<?> c : classes) {
